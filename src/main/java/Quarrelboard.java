@@ -456,8 +456,8 @@ public final class Quarrelboard {
         void decideInRounds(int facts) {
             openAll(facts);
             boolean changed = true;
-            // each round but the last decides a claim, so there is one more than claims at most
-            for (int round = 0; changed && round <= MAX_CLAIMS; round++) {
+            // each round that changes something decides a claim, so as many rounds are enough
+            for (int round = 0; changed && round < MAX_CLAIMS; round++) {
                 changed = false;
                 for (int claim = 0; claim < debate.size(); claim++) {
                     if (decide(claim)) {

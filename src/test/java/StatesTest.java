@@ -14,10 +14,13 @@ public final class StatesTest {
         return x;
     }
 
+    /** Asks by rounds first: it must not answer what the other way found before. */
     private static void dueStates(String what, Quarrelboard x, int... want) {
         for (int claim = 0; claim < want.length; claim++) {
-            checks.due(what + ": stateOf(" + claim + ")", x.stateOf(claim), want[claim]);
             checks.due(what + ": stateByRounds(" + claim + ")", x.stateByRounds(claim), want[claim]);
+        }
+        for (int claim = 0; claim < want.length; claim++) {
+            checks.due(what + ": stateOf(" + claim + ")", x.stateOf(claim), want[claim]);
         }
     }
 
@@ -133,6 +136,7 @@ public final class StatesTest {
     private static void longRows() {
         Quarrelboard x = withClaims(15);
         x.claim(1, 1);
+        dueStates("sixteen without ties", x, IN, IN, IN, IN, IN, IN, IN, IN, IN, IN, IN, IN, IN, IN, IN, IN);
         for (int claim = 0; claim < 15; claim++) {
             x.rest(claim, claim + 1);
         }
@@ -157,6 +161,27 @@ public final class StatesTest {
         }
         dueStates("a long row of attacks in the order of the numbers", z,
                 IN, OUT, IN, OUT, IN, OUT, IN, OUT, IN, OUT, IN, OUT, IN, OUT, IN, OUT);
+    }
+
+    /** Ten of which each matters for all later ones, and six in a row that are decided one by one. */
+    private static void crowdAheadOfARow() {
+        Quarrelboard x = withClaims(16);
+        for (int claim = 0; claim < 10; claim++) {
+            for (int other = 0; other < claim; other++) {
+                x.rest(claim, other);
+            }
+        }
+        for (int claim = 10; claim < 15; claim++) {
+            x.rest(claim, claim + 1);
+        }
+        dueStates("a crowd of IN", x, IN, IN, IN, IN, IN, IN, IN, IN, IN, IN, IN, IN, IN, IN, IN, IN);
+        x.attack(15, 0);
+        x.attack(9, 15);
+        dueStates("a crowd in a ring", x, OPEN, OPEN, OPEN, OPEN, OPEN, OPEN, OPEN, OPEN, OPEN, OPEN, OPEN,
+                OPEN, OPEN, OPEN, OPEN, OPEN);
+        x.attack(9, 15);
+        dueStates("a crowd of OUT", x, OUT, OUT, OUT, OUT, OUT, OUT, OUT, OUT, OUT, OUT,
+                IN, IN, IN, IN, IN, IN);
     }
 
     private static void noSuchClaim() {
@@ -195,6 +220,7 @@ public final class StatesTest {
         openWithOneReason();
         restsOnWhatAttacksIt();
         longRows();
+        crowdAheadOfARow();
         noSuchClaim();
         questionsChangeNothing();
         checks.end();
