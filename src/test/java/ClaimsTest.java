@@ -2,14 +2,6 @@
 public final class ClaimsTest {
     private static final Checks checks = new Checks();
 
-    private static Quarrelboard withClaims(int count) {
-        Quarrelboard x = new Quarrelboard();
-        for (int claim = 0; claim < count; claim++) {
-            x.claim(0, 1);
-        }
-        return x;
-    }
-
     private static void promise7Claim() {
         Quarrelboard x = new Quarrelboard();
         int[] left = {300, 300, 300};
@@ -123,7 +115,7 @@ public final class ClaimsTest {
     }
 
     private static void promise9Rest() {
-        Quarrelboard x = withClaims(3);
+        Quarrelboard x = Boards.withClaims(3);
         checks.due("rest", x.rest(0, 1), true);
         checks.due("rest the other way", x.rest(1, 0), true);
         checks.due("rest on a second", x.rest(0, 2), true);
@@ -175,7 +167,7 @@ public final class ClaimsTest {
     }
 
     private static void promise10Attack() {
-        Quarrelboard x = withClaims(4);
+        Quarrelboard x = Boards.withClaims(4);
         checks.due("attack", x.attack(0, 1), true);
         checks.due("who attacks", x.stateOf(0), Quarrelboard.IN);
         checks.due("who is attacked", x.stateOf(1), Quarrelboard.OUT);
@@ -192,7 +184,7 @@ public final class ClaimsTest {
     }
 
     private static void promises9And10Furthest() {
-        Quarrelboard x = withClaims(16);
+        Quarrelboard x = Boards.withClaims(16);
         for (int claim = 0; claim < 16; claim++) {
             for (int other = 0; other < 16; other++) {
                 if (claim != other) {
@@ -200,7 +192,7 @@ public final class ClaimsTest {
                 }
             }
         }
-        Quarrelboard y = withClaims(16);
+        Quarrelboard y = Boards.withClaims(16);
         for (int claim = 0; claim < 16; claim++) {
             for (int other = 0; other < 16; other++) {
                 if (claim != other) {

@@ -3,15 +3,6 @@ public final class FactsTest {
     private static final int[] NO_SOURCES = {-1, 6, 7, 32, Integer.MIN_VALUE, Integer.MAX_VALUE};
     private static final Checks checks = new Checks();
 
-    /** A board with a fact for each source from 0 to 5, then 0 to 5 again, and so on. */
-    private static Quarrelboard withFacts(int count) {
-        Quarrelboard x = new Quarrelboard();
-        for (int fact = 0; fact < count; fact++) {
-            x.addFact(fact % 6);
-        }
-        return x;
-    }
-
     private static void promise1NewObject() {
         Quarrelboard x = new Quarrelboard();
         checks.due("new: claims", x.claims(), 0);
@@ -88,7 +79,7 @@ public final class FactsTest {
     }
 
     private static void promise3ToggleSource() {
-        Quarrelboard x = withFacts(14);
+        Quarrelboard x = Boards.withFacts(14);
         for (int source = 0; source < 6; source++) {
             checks.due("a source falls", x.toggleSource(source), false);
             for (int fact = 0; fact < 14; fact++) {
@@ -110,7 +101,7 @@ public final class FactsTest {
     }
 
     private static void promise4Withdraw() {
-        Quarrelboard x = withFacts(14);
+        Quarrelboard x = Boards.withFacts(14);
         checks.due("withdraw", x.withdraw(13), true);
         checks.due("withdraw again", x.withdraw(13), false);
         checks.due("withdraw the first", x.withdraw(0), true);
@@ -128,7 +119,7 @@ public final class FactsTest {
     }
 
     private static void promise4WithdrawOfAFallenSource() {
-        Quarrelboard x = withFacts(2);
+        Quarrelboard x = Boards.withFacts(2);
         x.toggleSource(1);
         checks.due("withdraw a fact of a fallen source", x.withdraw(1), true);
         x.toggleSource(1);
@@ -158,7 +149,7 @@ public final class FactsTest {
     }
 
     private static void promise5FactStands() {
-        Quarrelboard x = withFacts(7);
+        Quarrelboard x = Boards.withFacts(7);
         checks.due("it stands", x.factStands(0), true);
         x.toggleSource(0);
         checks.due("its source fell", x.factStands(0), false);
@@ -175,7 +166,7 @@ public final class FactsTest {
     }
 
     private static void promise6Facts() {
-        Quarrelboard x = withFacts(3);
+        Quarrelboard x = Boards.withFacts(3);
         checks.due("facts", x.facts(), 3);
         x.withdraw(1);
         x.toggleSource(2);

@@ -4,22 +4,6 @@ public final class ScoresTest {
     private static final int[] NO_PLAYERS = {-1, 3, 4, 16, Integer.MIN_VALUE, Integer.MAX_VALUE};
     private static final Checks checks = new Checks();
 
-    private static Quarrelboard withFacts(int count) {
-        Quarrelboard x = new Quarrelboard();
-        for (int fact = 0; fact < count; fact++) {
-            x.addFact(fact % 6);
-        }
-        return x;
-    }
-
-    /** Lets the player make a claim, whoever has the turn. */
-    private static int claimOf(Quarrelboard x, int player, int facts) {
-        while (x.turn() != player) {
-            x.skip();
-        }
-        return x.claim(facts, 1);
-    }
-
     private static void dueScores(String what, Quarrelboard x, int zero, int one, int two) {
         checks.due(what + ": score(0)", x.score(0), zero);
         checks.due(what + ": score(1)", x.score(1), one);
@@ -27,17 +11,17 @@ public final class ScoresTest {
     }
 
     private static void promise17Score() {
-        Quarrelboard x = withFacts(2);
+        Quarrelboard x = Boards.withFacts(2);
         dueScores("no claims", x, 0, 0, 0);
-        claimOf(x, 1, 0);
-        claimOf(x, 1, 1);
-        claimOf(x, 0, 2);
-        claimOf(x, 1, 3);
+        Boards.claimOf(x, 1, 0);
+        Boards.claimOf(x, 1, 1);
+        Boards.claimOf(x, 0, 2);
+        Boards.claimOf(x, 1, 3);
         dueScores("all IN", x, 1, 3, 0);
         x.toggleSource(1);
         dueScores("some OUT", x, 0, 2, 0);
-        claimOf(x, 2, 0);
-        claimOf(x, 2, 0);
+        Boards.claimOf(x, 2, 0);
+        Boards.claimOf(x, 2, 0);
         dueScores("more", x, 0, 2, 2);
         x.attack(4, 5);
         x.attack(5, 4);
@@ -52,18 +36,18 @@ public final class ScoresTest {
     private static void promise17ManyClaims() {
         Quarrelboard x = new Quarrelboard();
         for (int claim = 0; claim < 16; claim++) {
-            claimOf(x, 2, 0);
+            Boards.claimOf(x, 2, 0);
         }
         dueScores("all of one player", x, 0, 0, 16);
         checks.due("who wins", x.verdict(), 2);
     }
 
     private static void promise18ScoreWithout() {
-        Quarrelboard x = withFacts(3);
-        claimOf(x, 0, 1);
-        claimOf(x, 0, 2);
-        claimOf(x, 1, 3);
-        claimOf(x, 2, 0);
+        Quarrelboard x = Boards.withFacts(3);
+        Boards.claimOf(x, 0, 1);
+        Boards.claimOf(x, 0, 2);
+        Boards.claimOf(x, 1, 3);
+        Boards.claimOf(x, 2, 0);
         checks.due("without 0", x.scoreWithout(0, 0), 1);
         checks.due("without 1", x.scoreWithout(0, 1), 1);
         checks.due("without 2", x.scoreWithout(0, 2), 2);
@@ -87,8 +71,8 @@ public final class ScoresTest {
         Quarrelboard x = new Quarrelboard();
         x.addFact(4);
         x.addFact(4);
-        claimOf(x, 0, 1);
-        claimOf(x, 0, 2);
+        Boards.claimOf(x, 0, 1);
+        Boards.claimOf(x, 0, 2);
         checks.due("a fact of the same source still stands", x.scoreWithout(0, 0), 1);
         checks.due("and the other way", x.scoreWithout(0, 1), 1);
     }
@@ -110,15 +94,15 @@ public final class ScoresTest {
     }
 
     private static void promise19KeyFact() {
-        Quarrelboard x = withFacts(4);
-        claimOf(x, 0, 2);
-        claimOf(x, 0, 4);
-        claimOf(x, 0, 4);
-        claimOf(x, 1, 8);
+        Quarrelboard x = Boards.withFacts(4);
+        Boards.claimOf(x, 0, 2);
+        Boards.claimOf(x, 0, 4);
+        Boards.claimOf(x, 0, 4);
+        Boards.claimOf(x, 1, 8);
         checks.due("two claims rest on it", x.keyFact(0), 2);
         checks.due("one claim rests on it", x.keyFact(1), 3);
         checks.due("none rests on any: the lowest", x.keyFact(2), 0);
-        claimOf(x, 0, 2);
+        Boards.claimOf(x, 0, 2);
         checks.due("of several the lowest", x.keyFact(0), 1);
         x.withdraw(1);
         checks.due("one that stands", x.keyFact(0), 2);
@@ -136,10 +120,10 @@ public final class ScoresTest {
     }
 
     private static void promise19WouldBeMore() {
-        Quarrelboard x = withFacts(3);
-        claimOf(x, 1, 1);
-        claimOf(x, 0, 0);
-        claimOf(x, 2, 2);
+        Quarrelboard x = Boards.withFacts(3);
+        Boards.claimOf(x, 1, 1);
+        Boards.claimOf(x, 0, 0);
+        Boards.claimOf(x, 2, 2);
         x.attack(0, 1);
         checks.due("a fact that only the other needs is not key", x.keyFact(0), 1);
         checks.due("without it the score would be more", x.scoreWithout(0, 0), 1);
@@ -150,16 +134,16 @@ public final class ScoresTest {
     }
 
     private static void promise19EachMakesItMore() {
-        Quarrelboard x = withFacts(1);
-        claimOf(x, 1, 1);
-        claimOf(x, 0, 0);
+        Quarrelboard x = Boards.withFacts(1);
+        Boards.claimOf(x, 1, 1);
+        Boards.claimOf(x, 0, 0);
         x.attack(0, 1);
         checks.due("the only fact, though the score would be more", x.keyFact(0), 0);
     }
 
     private static void promise19Furthest() {
-        Quarrelboard x = withFacts(14);
-        claimOf(x, 2, 1 << 13);
+        Quarrelboard x = Boards.withFacts(14);
+        Boards.claimOf(x, 2, 1 << 13);
         checks.due("the last fact", x.keyFact(2), 13);
         for (int player : NO_PLAYERS) {
             checks.dueIndex("keyFact(" + player + ")", () -> x.keyFact(player));
@@ -170,24 +154,24 @@ public final class ScoresTest {
     }
 
     private static void promise20Verdict() {
-        Quarrelboard x = withFacts(1);
+        Quarrelboard x = Boards.withFacts(1);
         checks.due("no claims", x.verdict(), NONE);
-        claimOf(x, 1, 0);
+        Boards.claimOf(x, 1, 0);
         checks.due("the only one", x.verdict(), 1);
-        claimOf(x, 2, 0);
+        Boards.claimOf(x, 2, 0);
         checks.due("two have the same", x.verdict(), NONE);
-        claimOf(x, 0, 0);
+        Boards.claimOf(x, 0, 0);
         checks.due("three have the same", x.verdict(), NONE);
-        claimOf(x, 0, 1);
+        Boards.claimOf(x, 0, 1);
         checks.due("the first has most", x.verdict(), 0);
         x.toggleSource(0);
         checks.due("not without its fact", x.verdict(), NONE);
-        claimOf(x, 2, 0);
+        Boards.claimOf(x, 2, 0);
         checks.due("the last has most", x.verdict(), 2);
-        claimOf(x, 0, 0);
+        Boards.claimOf(x, 0, 0);
         checks.due("the first and the last", x.verdict(), NONE);
-        claimOf(x, 1, 0);
-        claimOf(x, 1, 0);
+        Boards.claimOf(x, 1, 0);
+        Boards.claimOf(x, 1, 0);
         checks.due("the middle one above two that have the same", x.verdict(), 1);
     }
 
@@ -195,22 +179,22 @@ public final class ScoresTest {
         for (int winner = 0; winner < 3; winner++) {
             Quarrelboard x = new Quarrelboard();
             for (int player = 0; player < 3; player++) {
-                claimOf(x, player, 0);
+                Boards.claimOf(x, player, 0);
             }
-            claimOf(x, winner, 0);
+            Boards.claimOf(x, winner, 0);
             checks.due("two below have the same", x.verdict(), winner);
-            claimOf(x, (winner + 1) % 3, 0);
+            Boards.claimOf(x, (winner + 1) % 3, 0);
             checks.due("two above have the same", x.verdict(), NONE);
-            claimOf(x, (winner + 1) % 3, 0);
+            Boards.claimOf(x, (winner + 1) % 3, 0);
             checks.due("three differ", x.verdict(), (winner + 1) % 3);
         }
     }
 
     private static void promise20OpenClaims() {
         Quarrelboard x = new Quarrelboard();
-        claimOf(x, 0, 0);
-        claimOf(x, 1, 0);
-        claimOf(x, 2, 0);
+        Boards.claimOf(x, 0, 0);
+        Boards.claimOf(x, 1, 0);
+        Boards.claimOf(x, 2, 0);
         x.attack(0, 1);
         x.attack(1, 0);
         checks.due("OPEN claims don't count", x.verdict(), 2);
