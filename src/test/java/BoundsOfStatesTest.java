@@ -212,15 +212,32 @@ public final class BoundsOfStatesTest {
         return x;
     }
 
-    // "these two rules are used as long as one of them can be used": 15 steps, in orders of all kinds
+    /** Where the claims of a row stand: 16 numbers from a start on, in steps that reach all of them. */
+    private static int[] row(int start, int step) {
+        int[] row = new int[16];
+        for (int place = 0; place < 16; place++) {
+            row[place] = (start + place * step) % 16;
+        }
+        return row;
+    }
+
+    /** Sixteen claims of which just the one rests on the fact 0, which stands. */
+    private static Quarrelboard withFirst(int first) {
+        Quarrelboard x = Boards.withFacts(1);
+        for (int claim = 0; claim < 16; claim++) {
+            x.claim(claim == first ? 1 : 0, 1);
+        }
+        return x;
+    }
+
+    // "these two rules are used as long as one of them can be used": 15 steps from the first on, in
+    // many orders; against the order of the numbers it takes a round for each claim
     private static void fifteenStepsOfRests() {
-        for (int step = 1; step < 16; step += 2) {
-            Quarrelboard x = Boards.withFacts(1);
-            for (int claim = 0; claim < 16; claim++) {
-                x.claim(claim == 0 ? 1 : 0, 1);
-            }
-            for (int link = 0; link < 15; link++) {
-                x.rest((link + 1) * step % 16, link * step % 16);
+        for (int way = 0; way < 128; way++) {
+            int[] row = row(way % 16, way / 16 * 2 + 1);
+            Quarrelboard x = withFirst(row[0]);
+            for (int place = 0; place < 15; place++) {
+                x.rest(row[place + 1], row[place]);
             }
             dueAll("a row of rests", x, 16, IN);
             x.toggleSource(0);
@@ -230,45 +247,57 @@ public final class BoundsOfStatesTest {
 
     // the same, of attacks
     private static void fifteenStepsOfAttacks() {
-        for (int step = 1; step < 16; step += 2) {
-            Quarrelboard x = Boards.withFacts(1);
-            for (int claim = 0; claim < 16; claim++) {
-                x.claim(claim == 0 ? 1 : 0, 1);
+        for (int way = 0; way < 128; way++) {
+            int[] row = row(way % 16, way / 16 * 2 + 1);
+            Quarrelboard x = withFirst(row[0]);
+            for (int place = 0; place < 15; place++) {
+                x.attack(row[place], row[place + 1]);
             }
-            for (int link = 0; link < 15; link++) {
-                x.attack(link * step % 16, (link + 1) * step % 16);
-            }
-            for (int link = 0; link < 16; link++) {
-                due("a row of attacks", x, link * step % 16, link % 2 == 0 ? IN : OUT);
+            for (int place = 0; place < 16; place++) {
+                due("a row of attacks", x, row[place], place % 2 == 0 ? IN : OUT);
             }
             x.withdraw(0);
-            for (int link = 0; link < 16; link++) {
-                due("a row of attacks, turned", x, link * step % 16, link % 2 == 0 ? OUT : IN);
+            for (int place = 0; place < 16; place++) {
+                due("a row of attacks, turned", x, row[place], place % 2 == 0 ? OUT : IN);
             }
         }
     }
 
-    // the same, of rests and attacks by turns
+    // the same, of rests and attacks by turns: IN, OUT, OUT, IN, IN, and so on
     private static void fifteenStepsOfBoth() {
-        for (int step = 1; step < 16; step += 2) {
-            Quarrelboard x = Boards.withClaims(16);
-            int want = IN;
-            int[] wants = new int[16];
-            wants[0] = IN;
-            for (int link = 0; link < 15; link++) {
-                int from = link * step % 16;
-                int to = (link + 1) * step % 16;
-                if (link % 2 == 0) {
-                    x.attack(from, to);
-                    want = want == IN ? OUT : IN;
+        for (int way = 0; way < 128; way++) {
+            int[] row = row(way % 16, way / 16 * 2 + 1);
+            Quarrelboard x = withFirst(row[0]);
+            for (int place = 0; place < 15; place++) {
+                if (place % 2 == 0) {
+                    x.attack(row[place], row[place + 1]);
                 } else {
-                    x.rest(to, from);
+                    x.rest(row[place + 1], row[place]);
                 }
-                wants[to] = want;
             }
-            for (int claim = 0; claim < 16; claim++) {
-                due("rests and attacks, step " + step, x, claim, wants[claim]);
+            for (int place = 0; place < 16; place++) {
+                due("rests and attacks", x, row[place], (place + 1) / 2 % 2 == 0 ? IN : OUT);
             }
+        }
+    }
+
+    // the same, of a row that grows: what an earlier question found must not be left
+    private static void stepAfterStep() {
+        for (int way = 0; way < 128; way++) {
+            int[] row = row(way % 16, way / 16 * 2 + 1);
+            Quarrelboard x = withFirst(row[0]);
+            x.attack(row[14], row[15]);
+            x.attack(row[15], row[14]);
+            x.withdraw(0);
+            for (int place = 0; place < 13; place++) {
+                due("not yet", x, row[place + 1], IN);
+                x.rest(row[place + 1], row[place]);
+                due("the next one", x, row[place + 1], OUT);
+                due("the last two", x, row[15], OPEN);
+            }
+            x.rest(row[14], row[13]);
+            due("one of the last two", x, row[14], OUT);
+            due("the last one", x, row[15], IN);
         }
     }
 
@@ -398,6 +427,7 @@ public final class BoundsOfStatesTest {
         fifteenStepsOfRests();
         fifteenStepsOfAttacks();
         fifteenStepsOfBoth();
+        stepAfterStep();
         whicheverItIs();
         staysSo();
         ringsThatAreOpened();
